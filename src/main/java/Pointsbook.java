@@ -83,7 +83,7 @@ public final class Pointsbook {
 
         /** A stolen book and a dead holder are alike: nothing is LEFT by either. */
         boolean isWithoutBook() {
-            return bookStolen || isDead();
+            return bookStolen || health <= 0;
         }
 
         int quarters() {

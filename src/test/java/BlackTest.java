@@ -75,28 +75,36 @@ public final class BlackTest {
         Check.due("30: left there", land.goodIs(0, 5), 605);
         land.month();
         Check.due("30: visits of the old month", land.black(0, 0, 605), 302);
-        Lands.refused("30: black of nothing", Check.STATE, land, x -> x.black(0, 0, 1));
+        Check.dueThrow("30: black of nothing that was", Check.STATE, () -> land.black(0, 0, 1));
+        Lands.refused("30: black of nothing", Check.STATE, x -> x.black(0, 0, 1));
         Pointsbook other = Lands.land();
         Check.dueThrow("30: inspect(2)", Check.INDEX, () -> other.inspect(2));
         other.steal(0, 0, 100);
         Check.due("30: no visit", other.black(0, 0, 100), 50);
     }
 
-    private static Pointsbook withBlack(Pointsbook land) {
+    private static Pointsbook landWithBlack() {
+        Pointsbook land = Lands.land();
+        land.steal(0, 0, 900);
+        return land;
+    }
+
+    private static Pointsbook deadWithBlack() {
+        Pointsbook land = Lands.withDead();
         land.steal(0, 0, 900);
         return land;
     }
 
     private static void blackRefused() {
-        Lands.refused("30: black(3, 0, 0)", Check.INDEX, withBlack(Lands.land()), x -> x.black(3, 0, 0));
-        Lands.refused("30: black(-1, 0, 1)", Check.INDEX, withBlack(Lands.land()), x -> x.black(-1, 0, 1));
-        Lands.refused("30: black(0, 6, 0)", Check.INDEX, withBlack(Lands.land()), x -> x.black(0, 6, 0));
-        Lands.refused("30: black(0, -1, 1)", Check.INDEX, withBlack(Lands.land()), x -> x.black(0, -1, 1));
-        Lands.refused("30: black(0, 0, 0)", Check.ARGUMENT, withBlack(Lands.land()), x -> x.black(0, 0, 0));
-        Lands.refused("30: black(0, 0, 10000)", Check.ARGUMENT, withBlack(Lands.land()), x -> x.black(0, 0, 10000));
-        Lands.refused("30: black(0, 0, 901)", Check.STATE, withBlack(Lands.land()), x -> x.black(0, 0, 901));
-        Lands.refused("30: black(dead, 0, 1)", Check.STATE, withBlack(Lands.withDead()), x -> x.black(0, 0, 1));
-        Lands.refused("30: black(dead, 0, 0)", Check.ARGUMENT, withBlack(Lands.withDead()), x -> x.black(0, 0, 0));
+        Lands.refused("30: black(3, 0, 0)", Check.INDEX, BlackTest::landWithBlack, x -> x.black(3, 0, 0));
+        Lands.refused("30: black(-1, 0, 1)", Check.INDEX, BlackTest::landWithBlack, x -> x.black(-1, 0, 1));
+        Lands.refused("30: black(0, 6, 0)", Check.INDEX, BlackTest::landWithBlack, x -> x.black(0, 6, 0));
+        Lands.refused("30: black(0, -1, 1)", Check.INDEX, BlackTest::landWithBlack, x -> x.black(0, -1, 1));
+        Lands.refused("30: black(0, 0, 0)", Check.ARGUMENT, BlackTest::landWithBlack, x -> x.black(0, 0, 0));
+        Lands.refused("30: black(0, 0, 10000)", Check.ARGUMENT, BlackTest::landWithBlack, x -> x.black(0, 0, 10000));
+        Lands.refused("30: black(0, 0, 901)", Check.STATE, BlackTest::landWithBlack, x -> x.black(0, 0, 901));
+        Lands.refused("30: black(dead, 0, 1)", Check.STATE, BlackTest::deadWithBlack, x -> x.black(0, 0, 1));
+        Lands.refused("30: black(dead, 0, 0)", Check.ARGUMENT, BlackTest::deadWithBlack, x -> x.black(0, 0, 0));
     }
 
     public static void main(String[] args) {

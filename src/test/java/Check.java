@@ -42,6 +42,16 @@ final class Check {
         return 0;
     }
 
+    /** The answer, or a number that no answer is, for each exception. */
+    static int outcome(Call call) {
+        int[] answer = new int[1];
+        int thrown = thrownBy(() -> {
+            answer[0] = call.answer();
+            return 0;
+        });
+        return thrown == 0 ? answer[0] : Integer.MIN_VALUE + thrown;
+    }
+
     static void dueThrow(String text, int want, Call call) {
         int got = thrownBy(call);
         checked++;

@@ -1,5 +1,6 @@
 import java.util.ArrayList;
 import java.util.List;
+import java.util.function.Supplier;
 import java.util.function.ToIntFunction;
 
 /** Small lands to start from, and a look at all that can be asked of one. */
@@ -49,17 +50,11 @@ final class Lands {
         return land;
     }
 
-    /** Some 170 questions of the land above, so that two looks at it stay below 512 calls. */
+    /** Some 190 questions of the land above; a refused one counts, too. Two looks at it stay below 512 calls. */
     static List<Integer> look(Pointsbook land) {
         List<Integer> seen = new ArrayList<>();
         for (int person = 0; person < 3; person++) {
-            for (int what = 0; what < 7; what++) {
-                seen.add(land.personIs(person, what));
-            }
-            for (int good = 0; good < GOODS; good++) {
-                seen.add(land.left(person, good));
-                seen.add(land.leftAnew(person, good));
-            }
+            lookAtPerson(land, person, seen);
         }
         for (int good = 0; good < GOODS; good++) {
             lookAtGood(land, good, seen);
@@ -67,32 +62,74 @@ final class Lands {
         for (int what = 0; what < 9; what++) {
             seen.add(land.sum(what));
         }
-        seen.add(land.failed(0));
+        seen.add(Check.outcome(() -> land.failed(0)));
+        lookBeyond(land, seen);
         return seen;
+    }
+
+    private static void lookAtPerson(Pointsbook land, int person, List<Integer> seen) {
+        for (int what = 0; what < 7; what++) {
+            int asked = what;
+            seen.add(Check.outcome(() -> land.personIs(person, asked)));
+        }
+        for (int good = 0; good < GOODS; good++) {
+            int asked = good;
+            seen.add(Check.outcome(() -> land.left(person, asked)));
+            seen.add(Check.outcome(() -> land.leftAnew(person, asked)));
+        }
     }
 
     private static void lookAtGood(Pointsbook land, int good, List<Integer> seen) {
         for (int what = 0; what < 6; what++) {
             seen.add(land.goodIs(good, what));
         }
-        for (int place = 0; place < 2; place++) {
-            seen.add(land.depotHas(place, good));
+        for (int number = 0; number < 2; number++) {
+            int place = number;
+            seen.add(Check.outcome(() -> land.depotHas(place, good)));
             for (int what = 0; what < 5; what++) {
-                seen.add(land.shopIs(place, good, what));
+                int asked = what;
+                seen.add(Check.outcome(() -> land.shopIs(place, good, asked)));
             }
         }
     }
 
-    /** The call throws this, and nothing that can be asked is another then. */
-    static void refused(String text, int thrown, Pointsbook land, ToIntFunction<Pointsbook> call) {
-        List<Integer> before = look(land);
+    /** A refused call must not have told one more of anything. */
+    private static void lookBeyond(Pointsbook land, List<Integer> seen) {
+        for (int number = 2; number < 7; number += 2) {
+            int asked = number;
+            seen.add(Check.outcome(() -> land.failed(asked - 1)));
+            seen.add(Check.outcome(() -> land.depotHas(asked, 0)));
+            seen.add(Check.outcome(() -> land.shopIs(asked, 0, 0)));
+        }
+        seen.add(Check.outcome(() -> land.personIs(3, 0)));
+        seen.add(Check.outcome(() -> land.personIs(20, 0)));
+    }
+
+    /** What can't be asked shows only later: visits, what was delivered, the jump, and who moves. */
+    private static List<Integer> lookLater(Pointsbook land) {
+        List<Integer> seen = new ArrayList<>();
+        seen.add(Check.outcome(() -> land.steal(0, 0, 10)));
+        seen.add(Check.outcome(() -> land.black(1, 0, 10)));
+        seen.add(Check.outcome(() -> land.deliver(0, 699)));
+        seen.add(land.onPoints(5, 20));
+        seen.add(Check.outcome(() -> land.ship(0, 5, 1)));
+        seen.add(Check.outcome(() -> land.advance(0, 5, 1)));
+        seen.add(Check.outcome(land::month));
+        seen.addAll(look(land));
+        return seen;
+    }
+
+    /** The call throws this, and nothing is another then than in a land without that call, now and later. */
+    static void refused(String text, int thrown, Supplier<Pointsbook> maker, ToIntFunction<Pointsbook> call) {
+        Pointsbook land = maker.get();
+        Pointsbook twin = maker.get();
         Check.dueThrow(text, thrown, () -> call.applyAsInt(land));
-        List<Integer> after = look(land);
-        Check.due(text + " changes nothing", before.equals(after) ? 1 : 0, 1);
+        Check.due(text + " changes nothing", look(land).equals(look(twin)) ? 1 : 0, 1);
+        Check.due(text + " changes nothing later", lookLater(land).equals(lookLater(twin)) ? 1 : 0, 1);
     }
 
     static void refused(String text, int thrown, ToIntFunction<Pointsbook> call) {
-        refused(text, thrown, land(), call);
+        refused(text, thrown, Lands::land, call);
     }
 
     /** A land in which person 0 has starved: five months without anything eaten. */

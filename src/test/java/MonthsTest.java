@@ -63,6 +63,32 @@ public final class MonthsTest {
         Check.due("34: still 240", land.sum(0), 240);
     }
 
+    /** All that a month's end would change is there: a farm, hunger, a price, a move, a book. */
+    private static Pointsbook atTheEnd() {
+        Pointsbook land = Lands.bare();
+        land.shop(0);
+        for (int i = 0; i < 239; i++) {
+            land.month();
+        }
+        land.person(Pointsbook.ADULT, 0);
+        land.month();
+        land.farm(0, 3, 10);
+        land.onPoints(1, 20);
+        land.ship(0, 1, 5);
+        land.advance(0, 1, 5);
+        land.give(land.person(Pointsbook.CHILD, 0), 0, 3);
+        land.moves(0, 1);
+        land.stealBook(1);
+        return land;
+    }
+
+    private static void lastMonth() {
+        Pointsbook land = atTheEnd();
+        Check.dueThrow("34: month() at 240", Check.STATE, land::month);
+        Check.due("34: month() at 240 changes nothing", Lands.look(land).equals(Lands.look(atTheEnd())) ? 1 : 0, 1);
+        Check.due("34: 240 months", land.sum(0), 240);
+    }
+
     /** One adult (need 1600) who eats so much of a good with 100 by 100 grams. */
     private static Pointsbook eater(int grams) {
         Pointsbook land = Lands.bare();
@@ -325,6 +351,7 @@ public final class MonthsTest {
         promise32();
         promise33();
         promise34();
+        lastMonth();
         healthByEnergy();
         needsByKind();
         death();

@@ -29,8 +29,8 @@ public final class PeopleTest {
         Lands.refused("9: becomes(-1, 0)", Check.INDEX, x -> x.becomes(-1, 0));
         Lands.refused("9: becomes(0, 4)", Check.ARGUMENT, x -> x.becomes(0, 4));
         Lands.refused("9: becomes(0, -1)", Check.ARGUMENT, x -> x.becomes(0, -1));
-        Lands.refused("9: becomes(dead, 4)", Check.ARGUMENT, Lands.withDead(), x -> x.becomes(0, 4));
-        Lands.refused("9: becomes(dead, 0)", Check.STATE, Lands.withDead(), x -> x.becomes(0, 0));
+        Lands.refused("9: becomes(dead, 4)", Check.ARGUMENT, Lands::withDead, x -> x.becomes(0, 4));
+        Lands.refused("9: becomes(dead, 0)", Check.STATE, Lands::withDead, x -> x.becomes(0, 0));
     }
 
     /** The need is of the kind at the end of the month: the same food, another health. */
@@ -64,8 +64,8 @@ public final class PeopleTest {
         Lands.refused("10: moves(-1, 0)", Check.INDEX, x -> x.moves(-1, 0));
         Lands.refused("10: moves(0, 2)", Check.INDEX, x -> x.moves(0, 2));
         Lands.refused("10: moves(0, -1)", Check.INDEX, x -> x.moves(0, -1));
-        Lands.refused("10: moves(dead, 2)", Check.INDEX, Lands.withDead(), x -> x.moves(0, 2));
-        Lands.refused("10: moves(dead, 1)", Check.STATE, Lands.withDead(), x -> x.moves(0, 1));
+        Lands.refused("10: moves(dead, 2)", Check.INDEX, Lands::withDead, x -> x.moves(0, 2));
+        Lands.refused("10: moves(dead, 1)", Check.STATE, Lands::withDead, x -> x.moves(0, 1));
         Pointsbook kept = Lands.land();
         Check.dueThrow("10: moves(0, 2)", Check.INDEX, () -> kept.moves(0, 2));
         kept.month();
@@ -95,16 +95,19 @@ public final class PeopleTest {
         Lands.refused("11: give(0, 1, 0)", Check.ARGUMENT, x -> x.give(0, 1, 0));
         Lands.refused("11: give(0, 1, 100)", Check.ARGUMENT, x -> x.give(0, 1, 100));
         Lands.refused("11: give(0, 1, 21)", Check.STATE, x -> x.give(0, 1, 21));
-        Lands.refused("11: give(dead, dead, 1)", Check.ARGUMENT, Lands.withDead(), x -> x.give(0, 0, 1));
-        Lands.refused("11: give(dead, 1, 100)", Check.ARGUMENT, Lands.withDead(), x -> x.give(0, 1, 100));
-        Lands.refused("11: give(dead, 1, 1)", Check.STATE, Lands.withDead(), x -> x.give(0, 1, 1));
-        Lands.refused("11: give(1, dead, 1)", Check.STATE, Lands.withDead(), x -> x.give(1, 0, 1));
-        Pointsbook stolen = Lands.land();
-        stolen.stealBook(0);
-        Lands.refused("11: give(stolen, 1, 1)", Check.STATE, stolen, x -> x.give(0, 1, 1));
-        Pointsbook robbed = Lands.land();
-        robbed.stealBook(0);
-        Lands.refused("11: give(1, stolen, 1)", Check.STATE, robbed, x -> x.give(1, 0, 1));
+        Lands.refused("11: give(dead, dead, 1)", Check.ARGUMENT, Lands::withDead, x -> x.give(0, 0, 1));
+        Lands.refused("11: give(dead, 1, 100)", Check.ARGUMENT, Lands::withDead, x -> x.give(0, 1, 100));
+        Lands.refused("11: give(dead, 1, 1)", Check.STATE, Lands::withDead, x -> x.give(0, 1, 1));
+        Lands.refused("11: give(1, dead, 1)", Check.STATE, Lands::withDead, x -> x.give(1, 0, 1));
+        Lands.refused("11: give(stolen, 1, 1)", Check.STATE, PeopleTest::robbed, x -> x.give(0, 1, 1));
+        Lands.refused("11: give(1, stolen, 1)", Check.STATE, PeopleTest::robbed, x -> x.give(1, 0, 1));
+    }
+
+    /** The book of person 0 is stolen. */
+    private static Pointsbook robbed() {
+        Pointsbook land = Lands.land();
+        land.stealBook(0);
+        return land;
     }
 
     private static void promise12() {
@@ -118,7 +121,7 @@ public final class PeopleTest {
         Check.dueThrow("12: buy rationed", Check.STATE, () -> land.buy(0, 0, 0, 1));
         Check.dueThrow("12: buy on points", Check.STATE, () -> land.buy(0, 0, 1, 100));
         Check.due("12: buy free", land.buy(0, 0, 2, 5), Pointsbook.NONE);
-        Lands.refused("12: stealBook again", Check.STATE, land, x -> x.stealBook(0));
+        Lands.refused("12: stealBook again", Check.STATE, PeopleTest::robbed, x -> x.stealBook(0));
         Pointsbook later = Lands.land();
         later.stealBook(0);
         later.month();
@@ -126,7 +129,7 @@ public final class PeopleTest {
         Check.due("12: stolen in the new month", later.stealBook(0), 20);
         Lands.refused("12: stealBook(3)", Check.INDEX, x -> x.stealBook(3));
         Lands.refused("12: stealBook(-1)", Check.INDEX, x -> x.stealBook(-1));
-        Lands.refused("12: stealBook(dead)", Check.STATE, Lands.withDead(), x -> x.stealBook(0));
+        Lands.refused("12: stealBook(dead)", Check.STATE, Lands::withDead, x -> x.stealBook(0));
     }
 
     private static void promise13() {

@@ -109,15 +109,30 @@ public final class ShopsTest {
         Lands.refused("21: buy(0, 0, 0, 10000)", Check.ARGUMENT, x -> x.buy(0, 0, 0, 10000));
         Lands.refused("21: buy(0, 0, 1, 150)", Check.ARGUMENT, x -> x.buy(0, 0, 1, 150));
         Lands.refused("21: buy(0, 0, 1, 9999)", Check.ARGUMENT, x -> x.buy(0, 0, 1, 9999));
-        Lands.refused("21: buy(dead, 0, 1, 50)", Check.ARGUMENT, Lands.withDead(), x -> x.buy(0, 0, 1, 50));
-        Lands.refused("21: buy(dead, 0, 2, 1)", Check.STATE, Lands.withDead(), x -> x.buy(0, 0, 2, 1));
-        Lands.refused("21: buy(dead, 0, 0, 1)", Check.STATE, Lands.withDead(), x -> x.buy(0, 0, 0, 1));
+        Lands.refused("21: buy(dead, 0, 1, 50)", Check.ARGUMENT, Lands::withDead, x -> x.buy(0, 0, 1, 50));
+        Lands.refused("21: buy(dead, 0, 2, 1)", Check.STATE, Lands::withDead, x -> x.buy(0, 0, 2, 1));
+        Lands.refused("21: buy(dead, 0, 0, 1)", Check.STATE, Lands::withDead, x -> x.buy(0, 0, 0, 1));
         Lands.refused("21: rationed elsewhere", Check.STATE, x -> x.buy(0, 1, 0, 1));
         Lands.refused("21: more than is left", Check.STATE, x -> x.buy(0, 0, 0, 401));
         Lands.refused("21: more points than are left", Check.STATE, x -> x.buy(0, 0, 1, 700));
         Lands.refused("21: more than the shop has", Check.STATE, x -> x.buy(2, 1, 0, 301));
         Lands.refused("21: on points, the shop has none", Check.STATE, x -> x.buy(0, 1, 1, 100));
         Lands.refused("21: free, the shop has too little", Check.STATE, x -> x.buy(0, 0, 2, 501));
+    }
+
+    /** 300 coupons of good 0 in shop 0, with 3800 grams in the depots. */
+    private static Pointsbook banked() {
+        Pointsbook land = Lands.land();
+        land.buy(0, 0, 0, 300);
+        return land;
+    }
+
+    /** 300 coupons of good 0 in shop 0, with 20 grams in its depot and 50 in the one above. */
+    private static Pointsbook poor() {
+        Pointsbook land = banked();
+        land.lose(0, 0, 3750);
+        land.ship(1, 0, 20);
+        return land;
     }
 
     private static void promise22() {
@@ -129,12 +144,10 @@ public final class ShopsTest {
         Check.due("22: and the one above", land.depotHas(0, 0), 3730);
         Check.due("22: coupons", land.shopIs(0, 0, 1), 180);
         Check.due("22: claim the rest", land.claim(0, 0, 180), 1000);
-        Lands.refused("22: claim without coupons", Check.STATE, land, x -> x.claim(0, 0, 1));
-        Pointsbook poor = Lands.land();
-        poor.buy(0, 0, 0, 300);
-        poor.lose(0, 0, 3750);
-        poor.ship(1, 0, 20);
-        Lands.refused("22: claim what cannot be supplied", Check.STATE, poor, x -> x.claim(0, 0, 71));
+        Check.dueThrow("22: claim when all is claimed", Check.STATE, () -> land.claim(0, 0, 1));
+        Lands.refused("22: claim one more than is banked", Check.STATE, ShopsTest::banked, x -> x.claim(0, 0, 301));
+        Lands.refused("22: claim what cannot be supplied", Check.STATE, ShopsTest::poor, x -> x.claim(0, 0, 71));
+        Pointsbook poor = poor();
         Check.due("22: claim all that can", poor.claim(0, 0, 70), 770);
         Check.due("22: supplied, not owed", poor.shopIs(0, 0, 2), 1000);
         Lands.refused("22: claim(2, 0, 0)", Check.INDEX, x -> x.claim(2, 0, 0));
@@ -159,7 +172,8 @@ public final class ShopsTest {
         Check.due("23: the one above then", land.depotHas(0, 0), 3000);
         Check.due("23: all the depot has", land.advance(1, 0, 3000), 3300);
         Check.due("23: empty", land.depotHas(0, 0), 0);
-        Lands.refused("23: advance from empty depots", Check.STATE, land, x -> x.advance(0, 0, 1));
+        Check.dueThrow("23: advance from emptied depots", Check.STATE, () -> land.advance(0, 0, 1));
+        Lands.refused("23: advance from empty depots", Check.STATE, x -> x.advance(0, 4, 1));
         Lands.refused("23: advance(0, 0, 3801)", Check.STATE, x -> x.advance(0, 0, 3801));
         Lands.refused("23: advance(2, 0, 0)", Check.INDEX, x -> x.advance(2, 0, 0));
         Lands.refused("23: advance(-1, 0, 1)", Check.INDEX, x -> x.advance(-1, 0, 1));
