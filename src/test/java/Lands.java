@@ -50,7 +50,24 @@ final class Lands {
         return land;
     }
 
-    /** Some 190 questions of the land above; a refused one counts, too. Two looks at it stay below 512 calls. */
+    /** As many depots, shops, farms and people as can be told; nothing is anywhere. */
+    static Pointsbook whole() {
+        Pointsbook land = new Pointsbook();
+        land.depot(Pointsbook.NONE);
+        for (int i = 1; i < 6; i++) {
+            land.depot(i - 1);
+        }
+        for (int i = 0; i < 6; i++) {
+            land.shop(i);
+            land.farm(i, i, 7);
+        }
+        for (int i = 0; i < 20; i++) {
+            land.person(i % 4, i % 6);
+        }
+        return land;
+    }
+
+    /** Some 190 questions of land(); a refused one counts, too. Two looks at it stay below 512 calls. */
     static List<Integer> look(Pointsbook land) {
         List<Integer> seen = new ArrayList<>();
         for (int person = 0; person < 3; person++) {

@@ -190,6 +190,13 @@ public final class MonthsTest {
         }
         dueHealth("34: 1 is alive", land, 1, Pointsbook.UNSPENT);
         Check.due("34: not dead with 1", land.personIs(0, 6), 0);
+        Check.due("34: counted as alive with 1", land.sum(7), 1);
+        Check.due("34: points with 1", land.personIs(0, 4), 20);
+        land.ration(1, 40);
+        Check.due("34: grams with 1", land.left(0, 1), 40);
+        Check.due("34: grams with 1, anew", land.leftAnew(0, 1), 40);
+        Check.due("34: gets with 1", land.give(land.person(Pointsbook.CHILD, 0), 0, 3), 23);
+        Check.due("34: a book with 1", land.stealBook(0), 23);
         land.buy(0, 0, 0, 1600);
         land.month();
         dueHealth("34: and can go up", land, 4, Pointsbook.NONE);

@@ -121,18 +121,7 @@ public final class RangesTest {
 
     /** As much as can be told of everything; nothing anywhere; all people have starved. */
     private static Pointsbook spent() {
-        Pointsbook land = new Pointsbook();
-        land.depot(Pointsbook.NONE);
-        for (int i = 1; i < 6; i++) {
-            land.depot(i - 1);
-        }
-        for (int i = 0; i < 6; i++) {
-            land.shop(0);
-            land.farm(0, i, 7);
-        }
-        for (int i = 0; i < 20; i++) {
-            land.person(i % 4, i % 6);
-        }
+        Pointsbook land = Lands.whole();
         for (int i = 0; i < 5; i++) {
             land.month();
         }
